@@ -14,6 +14,10 @@ public final class ModelTest {
     private static final long THROWS_ARITHMETIC = -1001;
     private static final long THROWS_INDEX = -1002;
     private static final long THROWS_OTHER = -1003;
+    private static final int MOST_CALLS = 512;
+
+    // A way with the steps that are asked behind it.
+    private static final int CALLS_OF_A_WAY = 124;
 
     private static int wrong = 0;
     private static long told = 0;
@@ -302,6 +306,7 @@ public final class ModelTest {
         final boolean wild;
         final int maxLength;
         final int[] speeds;
+        int calls = 0;
 
         Run(int seed, int crossings, int mostPieces, boolean wild) {
             this.seed = seed;
@@ -395,7 +400,8 @@ public final class ModelTest {
             long want = model.way(from, to, t, true);
             due(call, graph.way(from, to, t), want);
             List<Integer> path = new ArrayList<>();
-            for (int i = 0; i < 122; i++) {
+            for (int i = 0; i <= model.steps.size(); i++) {
+                calls++;
                 int got = graph.step(i);
                 due(call + ", step(" + i + ")", got, model.step(i));
                 if (got != -1) {
@@ -462,6 +468,7 @@ public final class ModelTest {
         }
 
         void oneCall(int kind) {
+            calls++;
             switch (kind) {
                 case 0: case 1:
                     if (model.pieces.size() < mostPieces || wild && mostPieces >= 120) {
@@ -480,15 +487,21 @@ public final class ModelTest {
             }
         }
 
+        void build() {
+            for (int i = 0; i < mostPieces; i++) {
+                callPiece();
+            }
+            for (int i = 0; i < 6; i++) {
+                callStop();
+            }
+            calls += mostPieces + 6;
+        }
+
         void calls(int count) {
             try {
-                for (int i = 0; i < mostPieces; i++) {
-                    callPiece();
-                }
-                for (int i = 0; i < 6; i++) {
-                    callStop();
-                }
-                for (int i = 0; i < count; i++) {
+                build();
+                // Nothing is promised of an object behind its 512th call.
+                for (int i = 0; i < count && calls + CALLS_OF_A_WAY <= MOST_CALLS; i++) {
                     oneCall(random.nextInt(14));
                 }
             } catch (RuntimeException e) {
