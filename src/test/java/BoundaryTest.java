@@ -142,6 +142,29 @@ public final class BoundaryTest {
         dueSteps("round", g, 0, 0);
     }
 
+    private static void aLoopsTurnToItself() {
+        StreetGraph g = new StreetGraph();
+        g.piece(5, 5, 10, 10);
+        g.stop(0, 0, 7);
+        g.stop(0, 1, 3);
+        due("round", g.way(0, 1, 0), 3 + 3 + 15);
+        dueSteps("round", g, 0, 0);
+        due("barred", g.turn(0, 0, true), 1);
+        due("round, barred", g.way(0, 1, 0), NONE);
+        dueSteps("round, barred", g);
+        due("straight on, barred", g.way(1, 0, 0), 15 + 4);
+        dueSteps("straight on, barred", g, 0);
+        due("a second loop there", g.piece(5, 5, 20, 10), 1);
+        due("round over the second one", g.way(0, 1, 0), 3 + 20 + 3 + 15);
+        dueSteps("round over the second one", g, 0, 1, 0);
+        due("no more barred", g.turn(0, 0, false), 0);
+        g.gate(0, 50, 60);
+        due("round, its gate closed", g.way(0, 1, 0), 50 + 3 + 15);
+        dueSteps("round, the wait as long over each, the first one's number less", g, 0, 0);
+        due("round, its gate open", g.way(0, 1, 50), 53 + 3 + 15);
+        due("from time 0 on", g.table(0, 1), 50 + 3 + 15);
+    }
+
     private static void lengths() {
         StreetGraph g = new StreetGraph();
         due("1", g.piece(0, 1, 1, 1), 0);
@@ -301,6 +324,13 @@ public final class BoundaryTest {
         due("and back", g.way(1, 0, 0), 15);
         due("to itself at side 1", g.way(1, 1, 0), 30);
         dueSteps("to itself at side 1", g, 0);
+        g.piece(1, 0, 1, 1000);
+        due("to itself at side 1, though there is a way round", g.way(1, 1, 0), 30);
+        dueSteps("to itself at side 1, though there is a way round", g, 0);
+        g.gate(0, 500, 501);
+        due("to itself at side 1, its gate closed", g.way(1, 1, 0), 30);
+        due("to itself at side 1, from time 0 on", g.table(1, 1), 30);
+        due("to itself at side 0, from time 0 on", g.table(0, 0), 0);
     }
 
     private static void noRestAndNoMetres() {
@@ -905,6 +935,7 @@ public final class BoundaryTest {
         holds("a LENGTH in metres, 1 .. 10000", BoundaryTest::lengths);
         holds("a SPEED in tenths of metres for each second, 1 .. 1000", BoundaryTest::speeds);
         holds("10 times the metres divided by the speed, rounded up", BoundaryTest::roundedUp);
+        holds("each piece that begins where it ends (a loop itself)", BoundaryTest::aLoopsTurnToItself);
         holds("unless that TURN is barred (back, too)", BoundaryTest::backToo);
         holds("from OPEN on and below CLOSE", BoundaryTest::fromOpenOnAndBelowClose);
         holds("the first stop's own piece is not entered, unless one comes to it again",
